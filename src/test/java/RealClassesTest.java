@@ -85,9 +85,13 @@ public final class RealClassesTest {
         }
     }
 
-    /** From 0 to below the bound, and now and then just outside. */
+    /** From 0 to below the bound, and now and then outside. */
     private int near(int bound) {
-        return random.nextInt(15) == 0 ? (random.nextBoolean() ? -1 : bound) : random.nextInt(bound);
+        if (random.nextInt(15) != 0) {
+            return random.nextInt(bound);
+        }
+        int[] outside = {-1, bound, Integer.MIN_VALUE, Integer.MAX_VALUE};
+        return outside[random.nextInt(outside.length)];
     }
 
     private int argument() {
