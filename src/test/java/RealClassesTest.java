@@ -77,7 +77,8 @@ public final class RealClassesTest {
             int b = near(6);
             same(call, "alike(" + a + ", " + b + ")", number(loader.alike(a, b)), number(real.alike(a, b)));
         } else if (sort == 2) {
-            int i = random.nextBoolean() ? near(66) : Math.max(0, loader.count(2)) - 1;
+            // Asked of the real worlds, so that the loader itself hears 512 calls and no more.
+            int i = random.nextBoolean() ? near(66) : Math.max(0, real.count(2)) - 1;
             same(call, "note(" + i + ")", loader.note(i), real.note(i));
         } else {
             int what = near(3);

@@ -12,6 +12,9 @@ final class Section {
     /** Words of the document, the case of them that is looked at, and the test, which is given where to tell it. */
     void test(String words, String at, Consumer<Due> body) {
         Due due = new Due();
+        if (!Document.says(words)) {
+            due.isWrong("    the document does not say: " + words);
+        }
         try {
             body.accept(due);
         } catch (RuntimeException | Error e) {
